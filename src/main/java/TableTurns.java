@@ -870,7 +870,8 @@ public final class TableTurns {
     /** What is told of a commune, and what each meal gives by its law. */
     private static final class Commune {
         private static final int USUAL_REST = 2;
-        private static final int MEALS = MOST_PEOPLE * MOST_DISHES * 2;
+        private static final int MEALS_OF_ONE = MOST_DISHES * 2;
+        private static final int MEALS = MOST_PEOPLE * MEALS_OF_ONE;
 
         final long[] personName = new long[MOST_PEOPLE];
         final int[] kind = new int[MOST_PEOPLE];
@@ -892,6 +893,8 @@ public final class TableTurns {
         // Gifts depend on what is told alone, so they are worked out once.
         private final int[] gifts = new int[MEALS * MOST_PEOPLE];
         private final int[] giftsAbroad = new int[MOST_PEOPLE * MOST_DISHES];
+        // Meals for which an earlier one of the same eater gives no less to anybody and costs no more.
+        final boolean[] beaten = new boolean[MEALS];
 
         Commune() {
             people = 0;
@@ -961,7 +964,30 @@ public final class TableTurns {
                     settleGiftsOf(eater, dish, true);
                     settleGiftsOf(eater, dish, false);
                 }
+                settleBeaten(eater);
             }
+        }
+
+        private void settleBeaten(int eater) {
+            int from = eater * MEALS_OF_ONE;
+            for (int meal = from; meal < from + 2 * dishes; meal++) {
+                beaten[meal] = false;
+                for (int other = from; other < meal && !beaten[meal]; other++) {
+                    beaten[meal] = isNoWorse(other, meal);
+                }
+            }
+        }
+
+        private boolean isNoWorse(int meal, int than) {
+            if (cost[meal % MEALS_OF_ONE / 2] > cost[than % MEALS_OF_ONE / 2]) {
+                return false;
+            }
+            for (int i = 0; i < people; i++) {
+                if (gifts[meal * MOST_PEOPLE + i] < gifts[than * MOST_PEOPLE + i]) {
+                    return false;
+                }
+            }
+            return true;
         }
 
         private void settleGiftsOf(int eater, int dish, boolean slow) {
@@ -1502,6 +1528,7 @@ public final class TableTurns {
 
         int least = 0;
         int first = NONE;
+        private int begin = 0;
         private int tried = NONE;
         private int days = 0;
         private Commune commune = null;
@@ -1520,8 +1547,16 @@ public final class TableTurns {
             first = NONE;
             tried = NONE;
             standings[0].copies(now);
+            // With fasts ahead a low cost is found soon; it bounds the search for the first row.
+            begin = FAST;
             search(0, 0);
-            return least < TOO_DEAR;
+            if (least == TOO_DEAR) {
+                return false;
+            }
+            least++;
+            begin = 0;
+            search(0, 0);
+            return true;
         }
 
         private void search(int day, int spent) {
@@ -1530,7 +1565,8 @@ public final class TableTurns {
                 first = tried;
                 return;
             }
-            for (int choice = 0; choice <= FAST; choice++) {
+            for (int i = 0; i <= FAST; i++) {
+                int choice = (begin + i) % (FAST + 1);
                 int cost = costOf(day, choice);
                 // Of equal ones the first stays, so a choice must be cheaper to be looked at.
                 if (cost != NONE && spent + cost < least && feedsAll(day, choice)) {
@@ -1553,15 +1589,17 @@ public final class TableTurns {
             return choice % 2 == 0;
         }
 
-        /** NONE if it can't be. */
+        /** NONE if it can't be, or can't be the best. */
         private int costOf(int day, int choice) {
             if (choice == FAST) {
                 return 0;
             }
             int eater = eaterOf(choice);
             int dish = dishOf(choice);
-            boolean isTold = eater < commune.people && dish < commune.dishes;
-            return isTold && standings[day].canEat(commune, eater, dish) ? commune.costBy(eater, dish) : NONE;
+            if (eater >= commune.people || dish >= commune.dishes || commune.beaten[choice]) {
+                return NONE;
+            }
+            return standings[day].canEat(commune, eater, dish) ? commune.costBy(eater, dish) : NONE;
         }
 
         /** Looked at ahead of the meal: most choices fail here, and nothing is copied for them. */
