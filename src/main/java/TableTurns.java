@@ -28,7 +28,7 @@ public final class TableTurns {
     private static final int TOO_MANY = 5;
 
     private final Tape tape = new Tape();
-    private final CommuneReader reader = new CommuneReader(tape);
+    private final CommuneReader reader = new CommuneReader();
     private Commune commune = new Commune();
     private Commune spareCommune = new Commune();
     private Weeks weeks = new Weeks();
@@ -62,7 +62,7 @@ public final class TableTurns {
     }
 
     public int commune() {
-        if (reader.reads(spareCommune)) {
+        if (reader.reads(tape, spareCommune)) {
             Commune elder = commune;
             commune = spareCommune;
             spareCommune = elder;
@@ -1040,18 +1040,11 @@ public final class TableTurns {
 
     /** Reads the tape as a commune. */
     private static final class CommuneReader {
-        private final Tape tape;
-        private Commune told = null;
         private boolean storeTold = false;
         private boolean restTold = false;
         private boolean shareTold = false;
 
-        CommuneReader(Tape tape) {
-            this.tape = tape;
-        }
-
-        boolean reads(Commune fresh) {
-            told = fresh;
+        boolean reads(Tape tape, Commune told) {
             told.forgets();
             storeTold = false;
             restTold = false;
@@ -1064,19 +1057,19 @@ public final class TableTurns {
                 }
                 boolean right;
                 if (tape.isWord("person")) {
-                    right = readsPerson();
+                    right = readsPerson(tape, told);
                 } else if (tape.isWord("dish")) {
-                    right = readsDish();
+                    right = readsDish(tape, told);
                 } else if (tape.isWord("cup")) {
-                    right = readsCup();
+                    right = readsCup(tape, told);
                 } else if (tape.isWord("sick")) {
-                    right = readsSick();
+                    right = readsSick(tape, told);
                 } else if (tape.isWord("store")) {
-                    right = readsStore();
+                    right = readsStore(tape, told);
                 } else if (tape.isWord("rest")) {
-                    right = readsRest();
+                    right = readsRest(tape, told);
                 } else if (tape.isWord("share")) {
-                    right = readsShare();
+                    right = readsShare(tape, told);
                 } else {
                     right = tape.wrong(CANT_STAND);
                 }
@@ -1087,16 +1080,16 @@ public final class TableTurns {
             return tape.wrong(CANT_STAND);
         }
 
-        private boolean readsPerson() {
+        private static boolean readsPerson(Tape tape, Commune told) {
             int i = told.people;
             if (i >= MOST_PEOPLE) {
                 return tape.wrong(TOO_MANY);
             }
-            if (!takesNewName()) {
+            if (!takesNewName(tape, told)) {
                 return false;
             }
             told.personName[i] = tape.word;
-            if (!takesKind(i) || !tape.takesNumberOf("hungry", 9)) {
+            if (!takesKind(tape, told, i) || !tape.takesNumberOf("hungry", 9)) {
                 return false;
             }
             told.hunger[i] = tape.number;
@@ -1112,7 +1105,7 @@ public final class TableTurns {
             return tape.takesEnd();
         }
 
-        private boolean takesNewName() {
+        private static boolean takesNewName(Tape tape, Commune told) {
             if (!tape.takesName()) {
                 return false;
             }
@@ -1120,7 +1113,7 @@ public final class TableTurns {
             return isNew || tape.wrong(TOLD_ALREADY);
         }
 
-        private boolean takesKind(int person) {
+        private static boolean takesKind(Tape tape, Commune told, int person) {
             tape.takesToken();
             if (tape.isWord("plain")) {
                 told.kind[person] = 0;
@@ -1136,12 +1129,12 @@ public final class TableTurns {
             return true;
         }
 
-        private boolean readsDish() {
+        private static boolean readsDish(Tape tape, Commune told) {
             int i = told.dishes;
             if (i >= MOST_DISHES) {
                 return tape.wrong(TOO_MANY);
             }
-            if (!takesNewName()) {
+            if (!takesNewName(tape, told)) {
                 return false;
             }
             told.dishName[i] = tape.word;
@@ -1161,7 +1154,7 @@ public final class TableTurns {
             return tape.takesEnd();
         }
 
-        private boolean readsCup() {
+        private static boolean readsCup(Tape tape, Commune told) {
             if (!tape.takesPerson(told)) {
                 return false;
             }
@@ -1178,7 +1171,7 @@ public final class TableTurns {
             return tape.takesEnd();
         }
 
-        private boolean readsSick() {
+        private static boolean readsSick(Tape tape, Commune told) {
             if (!tape.takesPerson(told)) {
                 return false;
             }
@@ -1197,7 +1190,7 @@ public final class TableTurns {
             return tape.takesEnd();
         }
 
-        private boolean readsStore() {
+        private boolean readsStore(Tape tape, Commune told) {
             if (storeTold) {
                 return tape.wrong(TOLD_ALREADY);
             }
@@ -1209,7 +1202,7 @@ public final class TableTurns {
             return tape.takesEnd();
         }
 
-        private boolean readsRest() {
+        private boolean readsRest(Tape tape, Commune told) {
             if (restTold) {
                 return tape.wrong(TOLD_ALREADY);
             }
@@ -1221,7 +1214,7 @@ public final class TableTurns {
             return tape.takesEnd();
         }
 
-        private boolean readsShare() {
+        private boolean readsShare(Tape tape, Commune told) {
             if (shareTold) {
                 return tape.wrong(TOLD_ALREADY);
             }
@@ -1531,7 +1524,6 @@ public final class TableTurns {
         private int begin = 0;
         private int tried = NONE;
         private int days = 0;
-        private Commune commune = null;
         private final Standing[] standings = new Standing[MOST_DAYS + 1];
 
         Planner() {
@@ -1540,8 +1532,7 @@ public final class TableTurns {
             }
         }
 
-        boolean finds(Commune told, Standing now, int howMany) {
-            commune = told;
+        boolean finds(Commune commune, Standing now, int howMany) {
             days = Math.min(MOST_DAYS, howMany);
             least = TOO_DEAR;
             first = NONE;
@@ -1549,17 +1540,17 @@ public final class TableTurns {
             standings[0].copies(now);
             // With fasts ahead a low cost is found soon; it bounds the search for the first row.
             begin = FAST;
-            search(0, 0);
+            search(commune, 0, 0);
             if (least == TOO_DEAR) {
                 return false;
             }
             least++;
             begin = 0;
-            search(0, 0);
+            search(commune, 0, 0);
             return true;
         }
 
-        private void search(int day, int spent) {
+        private void search(Commune commune, int day, int spent) {
             if (day >= days) {
                 least = spent;
                 first = tried;
@@ -1567,12 +1558,12 @@ public final class TableTurns {
             }
             for (int i = 0; i <= FAST; i++) {
                 int choice = (begin + i) % (FAST + 1);
-                int cost = costOf(day, choice);
+                int cost = costOf(commune, day, choice);
                 // Of equal ones the first stays, so a choice must be cheaper to be looked at.
-                if (cost != NONE && spent + cost < least && feedsAll(day, choice)) {
+                if (cost != NONE && spent + cost < least && feedsAll(commune, day, choice)) {
                     tried = day == 0 ? choice : tried;
-                    chooses(day, choice);
-                    search(day + 1, spent + cost);
+                    chooses(commune, day, choice);
+                    search(commune, day + 1, spent + cost);
                 }
             }
         }
@@ -1590,7 +1581,7 @@ public final class TableTurns {
         }
 
         /** NONE if it can't be, or can't be the best. */
-        private int costOf(int day, int choice) {
+        private int costOf(Commune commune, int day, int choice) {
             if (choice == FAST) {
                 return 0;
             }
@@ -1603,7 +1594,7 @@ public final class TableTurns {
         }
 
         /** Looked at ahead of the meal: most choices fail here, and nothing is copied for them. */
-        private boolean feedsAll(int day, int choice) {
+        private boolean feedsAll(Commune commune, int day, int choice) {
             Standing here = standings[day];
             for (int i = 0; i < commune.people; i++) {
                 if (here.full[i] < commune.hunger[i]) {
@@ -1617,7 +1608,7 @@ public final class TableTurns {
             return true;
         }
 
-        private void chooses(int day, int choice) {
+        private void chooses(Commune commune, int day, int choice) {
             Standing then = standings[day + 1];
             then.copies(standings[day]);
             if (choice != FAST) {
@@ -1705,16 +1696,14 @@ public final class TableTurns {
         int least = 0;
         final int[] best = new int[MOST_PEOPLE];
         private final int[] row = new int[MOST_PEOPLE];
-        private Commune commune = null;
 
-        void pairs(Commune told, int sitting) {
-            commune = told;
+        void pairs(Commune commune, int sitting) {
             least = TOO_FAR;
             Arrays.fill(row, NONE);
-            pairRest(sitting, Integer.bitCount(sitting) % 2 == 1, 0);
+            pairRest(commune, sitting, Integer.bitCount(sitting) % 2 == 1, 0);
         }
 
-        private void pairRest(int left, boolean oneAlone, int apart) {
+        private void pairRest(Commune commune, int left, boolean oneAlone, int apart) {
             if (left == 0) {
                 if (apart < least) {
                     least = apart;
@@ -1729,13 +1718,13 @@ public final class TableTurns {
                     row[one] = other;
                     row[other] = one;
                     int further = Math.abs(commune.taste[one] - commune.taste[other]);
-                    pairRest(others & ~(1 << other), oneAlone, apart + further);
+                    pairRest(commune, others & ~(1 << other), oneAlone, apart + further);
                     row[other] = NONE;
                 }
             }
             row[one] = NONE;
             if (oneAlone) {
-                pairRest(others, false, apart);
+                pairRest(commune, others, false, apart);
             }
         }
     }
