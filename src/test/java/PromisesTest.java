@@ -16,6 +16,8 @@ public final class PromisesTest {
         feed();
         commune();
         communeFaults();
+        readAgain();
+        allThere();
         law();
         lawFaults();
         weeks();
@@ -197,7 +199,64 @@ public final class PromisesTest {
     }
 
     private static void fault(String text, int kind, int place) {
-        due("3 fault of " + text, kind + 16 * place, commune(new TableTurns(), text));
+        TableTurns x = told("store 77;");
+        x.fast();
+        due("3 fault of " + text, kind + 16 * place, commune(x, text));
+        due("3 all stays by " + text, kind == 0 ? 0 : 1, x.count(3));
+    }
+
+    private static void readAgain() {
+        TableTurns x = new TableTurns();
+        commune(x, "store 5;rest 5;share 5;?");
+        due("3 told in a text with a fault", 0, commune(x, ONE + "store 0;rest 0;share ((((7))));"));
+        due("3 store 0", 0, x.count(4));
+        x.eat(0, 0, true);
+        due("3 rest 0", 7, x.would(0, 0, true, 0));
+        commune(x, "share not(not(2");
+        due("3 nothing is left open", 0, commune(x, ONE + "share ((((7))))<8;"));
+        due("3 its worth", 1, x.would(0, 0, true, 0));
+        commune(x, "share 2*");
+        due("3 nothing waits", 0, commune(x, ONE));
+        due("3 the usual law again", 5, x.would(0, 0, true, 0));
+        x.eat(0, 0, true);
+        x.fast();
+        due("3 the usual rest again", 0, x.would(0, 0, true, 0));
+        commune(x, PEOPLE);
+        due("3 ben is greedy", 1, x.person(1, 0));
+        commune(x, PEOPLE.replace("greedy", "plain"));
+        due("3 ben is plain", 0, x.person(1, 0));
+        commune(x, "rest 1;rest 1;");
+        due("3 rest again", 0, commune(x, "rest 1;"));
+    }
+
+    private static void allThere() {
+        String text = "";
+        for (int i = 0; i < 6; i++) {
+            text += "person p" + (char) ('a' + i) + " plain hungry 1 taste " + i + " votes 1;";
+        }
+        for (int i = 0; i < 5; i++) {
+            text += "dish d" + (char) ('a' + i) + " bites " + 2 * i + " salt 0 cost 1;";
+        }
+        for (int i = 0; i < 6; i++) {
+            for (int j = i + 1; j < 6; j++) {
+                text += "cup p" + (char) ('a' + i) + " p" + (char) ('a' + j) + ";";
+            }
+        }
+        TableTurns x = told(text + "store 99;");
+        due("24 six", 6, x.count(0));
+        due("24 five", 5, x.count(1));
+        due("24 fifteen", 15, x.count(2));
+        due("24 all sit", 63, x.count(5));
+        due("14 each for himself: 8, 7, 6, 5, 4, 3, less than by the first: 8, 7, 6, 5, 4, 3", 33, x.tables(4, -1));
+        due("14 the first row", 0, x.tables(4, 5));
+        due("17 all sets", 64, x.sets(4, 0));
+        due("17 in some", 63, x.sets(4, 2));
+        due("19 half: two of five", 10, x.power(5, 3));
+        due("20 neighbours", 3, x.couples(-1));
+        due("20 neighbours", 4, x.couples(5));
+        due("15 by turns", 60, x.last(4));
+        due("8 the last one eats the last", 1, x.eat(5, 4, false));
+        due("8 filled", 50 + 3 - 1, x.person(5, 4));
     }
 
     private static void communeFaults() {
@@ -680,6 +739,11 @@ public final class PromisesTest {
         weeks(x, times(6, "eat a d slow;"));
         due("12 ill and hungry", 5, x.judged(1));
         due("12 ill and hungry", 1, x.judged(2));
+        x = told("person a plain hungry 9 taste 0 votes 0;dish d bites 0 salt 0 cost 0;share slowly*9;");
+        weeks(x, "eat a d slow;" + times(6, "none;"));
+        due("12 slowly", 6, x.judged(1));
+        weeks(x, "eat a d fast;" + times(6, "none;"));
+        due("12 fast", 5, x.judged(1));
     }
 
     private static void plan() {
@@ -720,6 +784,18 @@ public final class PromisesTest {
             x.fast();
         }
         due("13 the sick one can't be fed", -2, x.plan(1, 0));
+        x = told("person a plain hungry 5 taste 0 votes 0;dish d bites 2 salt 0 cost 1;store 3;");
+        for (int i = 0; i < 9; i++) {
+            x.fast();
+        }
+        due("13 just enough", 60, x.plan(1, 1));
+        due("13 not for two days", -2, x.plan(2, 1));
+        x = told("person a plain hungry 5 taste 0 votes 0;dish d bites 5 salt 0 cost 1;store 3;");
+        for (int i = 0; i < 10; i++) {
+            x.fast();
+        }
+        due("13 filled by just enough", 1, x.plan(1, 0));
+        due("13 by a", 0, x.plan(1, 1));
     }
 
     private static void planTies() {
@@ -780,6 +856,12 @@ public final class PromisesTest {
         due("14 nobody has one", -1, x.tables(0, 0));
         x = told("person a plain hungry 0 taste 0 votes 0;dish d bites 5 salt 0 cost 9;share slowly*4;");
         due("14 slowly", 4, x.tables(0, -1));
+        x = told("person a plain hungry 0 taste 0 votes 0;person b plain hungry 0 taste 0 votes 0;person c plain hungry 0 taste 0 votes 0;dish d bites 5 salt 0 cost 9;sick b from 0 to 9;");
+        due("14 one between is sick: 5 and 5, not 5 and 3", 10, x.tables(0, -1));
+        due("14 one between is sick", 1, x.tables(0, 2));
+        x = told("person a plain hungry 0 taste 0 votes 0;person b plain hungry 0 taste 0 votes 0;dish d bites 0 salt 0 cost 9;");
+        due("14 nothing to eat", 0, x.tables(0, -1));
+        due("14 nothing to eat", 0, x.tables(0, 1));
     }
 
     private static void last() {
@@ -804,6 +886,8 @@ public final class PromisesTest {
         due("15 a 1, b 2: 1+2+1+2+1+2 is 9", 6, x.last(0));
         x = told("person a plain hungry 0 taste 0 votes 0;person b greedy hungry 0 taste 0 votes 0;dish d bites 5 salt 0 cost 1;rest 0;store 4;");
         due("15 a, b, a, and nothing", 3, x.last(0));
+        x = told("person a greedy hungry 0 taste 0 votes 0;person b plain hungry 0 taste 0 votes 0;dish d bites 5 salt 0 cost 1;rest 0;store 2;");
+        due("15 a is the first, by 2", 1, x.last(0));
         x = told("person a plain hungry 0 taste 0 votes 0;person b plain hungry 0 taste 0 votes 0;dish d bites 5 salt 0 cost 1;rest 0;store 9;sick a from 0 to 1;sick b from 3 to 4;");
         due("15 who can", 9, x.last(0));
         x = told("person a plain hungry 0 taste 0 votes 0;dish d bites 5 salt 0 cost 1;rest 0;store 9;sick a from 3 to 4;");
@@ -824,6 +908,10 @@ public final class PromisesTest {
         due("16 full", false, x.tell(0, 100));
         due("16 full", false, x.tell(0, -1));
         due("16 nothing is told", 0, x.count(9));
+        due("16 the least", true, x.tell(0, 0));
+        due("16 the most", true, x.tell(0, 99));
+        due("16 one is told", 1, x.count(9));
+        x = told(BASE);
         due("17 all sets", 16, x.sets(1, 0));
         due("17 in all", 0, x.sets(1, 1));
         due("17 in some", 15, x.sets(1, 2));
@@ -909,6 +997,8 @@ public final class PromisesTest {
         x = told(six + "cup f e;cup e d;cup d c;cup c b;cup b a;sick f from 0 to 5;");
         due("18 a long row", 2, x.stop(0));
         due("18 a shorter one", 8, x.stop(2));
+        x = told(PEOPLE + "cup ann ben;cup ben cat;cup ann dan;cup dan cat;sick ann from 0 to 0;");
+        due("18 all who can be", 2 + 8, x.stop(2));
     }
 
     private static void power() {
@@ -1006,16 +1096,8 @@ public final class PromisesTest {
         due("22 a frost, half of 15 is 7", 8, x.years(0, 1, 2));
         due("22 all is as ahead", 15, x.count(4));
         due("22 nothing happens", 0, x.count(3));
-        long g = 4711;
-        int store = 999;
-        for (int day = 0; day < 100; day++) {
-            g = (g * 1103515245L + 12345L) % 2147483648L;
-            if (g / 65536 % 10 == 0) {
-                store -= store / 2;
-            }
-        }
         commune(x, "store 999;");
-        due("22 frosts of a hundred days", store, x.years(4711, 100, 2));
+        due("22 frosts of a hundred days", frosts(4711, 100), x.years(4711, 100, 2));
         x = told("person a plain hungry 9 taste 0 votes 0;person b plain hungry 5 taste 0 votes 0;");
         // 50 is 9 * 5 + 5, and 5 * 10: a is hungry on days 5 .. 19, b on days 10 .. 19
         due("22 without dishes a fast", 15 + 10, x.years(9, 20, 0));
@@ -1030,6 +1112,42 @@ public final class PromisesTest {
         due("22 ill in all stays", 1, x.count(7));
         x = told(ONE.replace("cost 0", "cost 3") + "rest 0;store 7;");
         due("22 no frost by seed 9 on the first day", 1, x.years(9, 2, 2));
+        x = told("person a plain hungry 9 taste 0 votes 0;store 999;");
+        due("22 one draw a day without dishes", frosts(4711, 100), x.years(4711, 100, 2));
+        x = told("dish d bites 0 salt 0 cost 9;store 999;");
+        due("22 one draw a day without people", frosts(4711, 100), x.years(4711, 100, 2));
+        due("22 the last seed", frosts(9999, 100), x.years(9999, 100, 2));
+        drawnMeals();
+    }
+
+    private static int frosts(long seed, int days) {
+        long g = seed;
+        int store = 999;
+        for (int day = 0; day < days; day++) {
+            g = (g * 1103515245L + 12345L) % 2147483648L;
+            store -= g / 65536 % 10 == 0 ? store / 2 : 0;
+        }
+        return store;
+    }
+
+    /** The first draws below 10, 2, 2, 2 by seed 1: 8 0 1 1; 2: 8 1 1 0; 5: 5 1 0 1; 7: 4 0 0 0; 8: 4 0 0 1; 14: 0 0 0 0. */
+    private static void drawnMeals() {
+        String text = "person a plain hungry 9 taste 0 votes 0;person b greedy hungry 9 taste 0 votes 0;"
+            + "dish x bites 0 salt 0 cost 1;dish y bites 0 salt 0 cost 10;share slowly*9;";
+        TableTurns x = told(text + "store 100;");
+        due("22 a eats y", 90, x.years(1, 1, 2));
+        due("22 b eats y", 80, x.years(2, 1, 2));
+        due("22 b eats x", 98, x.years(5, 1, 2));
+        due("22 a eats x", 99, x.years(7, 1, 2));
+        due("22 a eats x in a frost", 49, x.years(14, 1, 2));
+        for (int i = 0; i < 5; i++) {
+            x.fast();
+        }
+        due("22 slowly", 0, x.years(7, 1, 0));
+        due("22 fast", 2, x.years(8, 1, 0));
+        x = told(text + "store 9;");
+        due("22 it can't be", 9, x.years(1, 1, 2));
+        due("22 so nobody is ill", 0, x.years(1, 1, 1));
     }
 
     private static void mark() {
@@ -1069,8 +1187,18 @@ public final class PromisesTest {
         due("23 another one", false, x.mark(2, true));
         commune(x, "?");
         due("23 a fault leaves it", true, x.mark(3, true));
+        weeks(x, "eat ann ham slow;eat cat soup fast;eat ben soup slow;");
+        x.mark(0, false);
+        weeks(x, "abroad dan soup;none;abroad cat ham;none;");
+        due("23 other weeks", 40, x.judged(3));
+        x.mark(0, true);
+        due("23 the same weeks", 40 - 6 - 3 - 6, x.judged(3));
+        weeks(x, "none;");
+        x.mark(0, true);
+        due("23 the same weeks again", 25, x.judged(3));
         commune(x, BASE);
         due("23 a commune takes it", false, x.mark(3, true));
+        due("23 a commune takes each", false, x.mark(0, true));
         x = new TableTurns();
         due("23 of nothing", true, x.mark(0, false));
         x.fast();
