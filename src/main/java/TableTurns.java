@@ -886,22 +886,15 @@ public final class TableTurns {
         final int[] salt = new int[MOST_DISHES];
         final int[] cost = new int[MOST_DISHES];
         final Law law = new Law();
-        int people;
-        int dishes;
-        int store;
-        int rest;
+        int people = 0;
+        int dishes = 0;
+        int store = 0;
+        int rest = USUAL_REST;
         // Gifts depend on what is told alone, so they are worked out once.
         private final int[] gifts = new int[MEALS * MOST_PEOPLE];
         private final int[] giftsAbroad = new int[MOST_PEOPLE * MOST_DISHES];
         // Meals for which an earlier one of the same eater gives no less to anybody and costs no more.
         final boolean[] beaten = new boolean[MEALS];
-
-        Commune() {
-            people = 0;
-            dishes = 0;
-            store = 0;
-            rest = USUAL_REST;
-        }
 
         void forgets() {
             people = 0;
