@@ -1712,7 +1712,6 @@ public final class TableTurns {
                     row[other] = one;
                     int further = Math.abs(commune.taste[one] - commune.taste[other]);
                     pairRest(commune, others & ~(1 << other), oneAlone, apart + further);
-                    row[other] = NONE;
                 }
             }
             row[one] = NONE;
