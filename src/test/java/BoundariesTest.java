@@ -21,6 +21,9 @@ public final class BoundariesTest {
     private static final int MOST = Integer.MAX_VALUE;
     /** What rest answers for a NoSuchElementException. */
     private static final int THROWN = -99;
+    /** Numbers of nobody and of no dish where there are two of each. */
+    private static final int[] NO_PEOPLE = {-1, 2, 6, LEAST, MOST};
+    private static final int[] NO_DISHES = {-1, 2, 5, LEAST, MOST};
     private static final String[] RESERVED = {"person", "hungry", "taste", "votes", "dish", "bites", "salt", "cost", "cup", "sick",
         "from", "to", "store", "rest", "share", "eat", "abroad", "none", "slow", "fast", "plain", "greedy", "loved", "old", "not",
         "and", "or"};
@@ -364,7 +367,8 @@ public final class BoundariesTest {
         fault(5, six.length(), six + plain("g", 1));
         fault(5, six.length() + 1, six + " person");
         fault(5, six.length(), six + "person a");
-        due("faults leave the people", 0, new TableTurns().count(0));
+        due("a seventh", 5 + 16 * six.length(), commune(x, six + plain("g", 1)));
+        due("still six", 6, x.count(0));
     }
 
     @Says("numbered as told, as they sit along the bench; KIND: plain, greedy, loved, old")
@@ -580,8 +584,7 @@ public final class BoundariesTest {
         fault(3, dishes(1).length() + 5, dishes(1) + dishes(1));
         fault(3, plain("p", 1).length() + 5, plain("p", 1) + dishes(1));
         fault(3, dishes(1).length() + 7, dishes(1) + plain("p", 1));
-        int six = hungryPeople(5, 1).length();
-        fault(3, six + 7, hungryPeople(5, 1) + plain("e", 1));
+        fault(3, hungryPeople(5, 1).length() + 7, hungryPeople(5, 1) + plain("e", 1));
         fault(3, dishes(4).length() + 5, dishes(4) + dish("s", 1, 1, 1));
         right(plain("x", 1) + plain("xx", 1) + dish("xxx", 1, 1, 1));
         right(plain("a", 1) + plain("aa", 1) + plain("aaa", 1) + plain("aaaaaaaa", 1) + dish("ab", 1, 1, 1) + dish("b", 1, 1, 1));
@@ -1907,9 +1910,6 @@ public final class BoundariesTest {
 
     // ---- the promises: what they answer for others
 
-    private static final int[] NO_PEOPLE = {-1, 2, 6, LEAST, MOST};
-    private static final int[] NO_DISHES = {-1, 2, 5, LEAST, MOST};
-
     /** Two people, two dishes; b is sick on days 1 and 2. */
     private static TableTurns two() {
         return told(hungryPeople(2, 3) + dish("p", 9, 0, 2) + dish("q", 5, 1, 9) + "cup a b;store 8;sick b from 1 to 2;");
@@ -2322,7 +2322,7 @@ public final class BoundariesTest {
             x.years(5, 50, i);
         }
         stays("asking", before, x);
-        due("the next meal", 1, x.undo() ? 1 : 0);
+        due("what b ate abroad is undone", true, x.undo());
         due("b was filled by it", 50 + 8 - 3, x.person(1, 4));
     }
 }
