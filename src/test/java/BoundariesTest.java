@@ -800,6 +800,44 @@ public final class BoundariesTest {
         weeksFault(2, 4, "eat x y z");
     }
 
+    @Says("1 it is none, or can't stand there")
+    private static void cantStand() {
+        String[] lines = {"person a plain hungry 1 taste 1 votes 1 ;", "person b old hungry 1 taste 1 votes 1 ;",
+            "dish p bites 1 salt 1 cost 1 ;", "cup a b ;", "sick a from 1 to 2 ;", "store 5 ;", "rest 1 ;",
+            "share ( 1 + off ) * not 0 < 5 and own = 1 or slowly ;"};
+        String before = "";
+        for (String line : lines) {
+            for (String wrongOne : new String[] {"?", "abcdefghi", "12345", "A", "/", ">"}) {
+                cantStandIn(before, line, wrongOne);
+            }
+            before += line;
+        }
+        right(before);
+        for (String line : new String[] {"eat a p slow ;", "eat b q fast ;", "abroad a p ;", "none ;"}) {
+            for (int from = 0; from >= 0; from = nextToken(line, from)) {
+                weeksFault(1, 5 + from, "none;" + line.substring(0, from) + "? ;");
+                if (from > 0) {
+                    weeksFault(1, 5 + from, "none;" + line.substring(0, from));
+                }
+            }
+        }
+    }
+
+    /** Each token of a line in its turn is another one, or is the end. */
+    private static void cantStandIn(String before, String line, String wrongOne) {
+        for (int from = 0; from >= 0; from = nextToken(line, from)) {
+            fault(1, before.length() + from, before + line.substring(0, from) + wrongOne + " ;");
+            if (from > 0) {
+                fault(1, before.length() + from, before + line.substring(0, from));
+            }
+        }
+    }
+
+    private static int nextToken(String line, int from) {
+        int blank = line.indexOf(' ', from);
+        return blank < 0 ? -1 : blank + 1;
+    }
+
     @Says("2 a NAME of no PERSON (behind cup, sick, eat, abroad), of no DISH (the second of eat, abroad) told")
     private static void nobodyTold() {
         int at = people(2).length();
